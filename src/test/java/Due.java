@@ -1,0 +1,85 @@
+/** Compares answers with what is due, and counts those that are not. */
+final class Due {
+    static final int BEYOND = -1000000001;
+    static final int FULL = -1000000002;
+    static final int KIND = -1000000003;
+    static final int NONE = -1000000004;
+    static final int STATE = -1000000005;
+    static final int MISSING = -1000000006;
+    static final int SIZE = -1000000007;
+
+    private int asked = 0;
+    private int wrong = 0;
+
+    void is(String what, long got, long want) {
+        asked++;
+        if (got != want) {
+            wrong++;
+            System.out.println(what + " answered " + got + ", due is " + want);
+        }
+    }
+
+    void end() {
+        System.out.println(asked + " asked, " + wrong + " wrong");
+        if (wrong != 0 || asked == 0) {
+            System.exit(1);
+        }
+    }
+
+    /** The groups of four bits that tune() takes, from the tones. */
+    static long tones(int... row) {
+        long packed = 0;
+        for (int i = 0; i < row.length; i++) {
+            packed |= (long) row[i] << (4 * i);
+        }
+        return packed;
+    }
+
+    static int tune(FugueNotes x, int side, int... row) {
+        return x.tune(side, row.length, tones(row));
+    }
+
+    void tuneIs(String what, FugueNotes x, int side, int... row) {
+        is(what + ": length", x.side(side, 0), row.length);
+        for (int i = 0; i < row.length; i++) {
+            is(what + ": tone " + i, x.tone(side, i), row[i]);
+        }
+    }
+
+    void answerIs(String what, FugueNotes x, int attache, int... row) {
+        is(what + ": long", x.of(attache, 5), row.length);
+        for (int i = 0; i < row.length; i++) {
+            is(what + ": answer " + i, x.answer(attache, i), row[i]);
+        }
+        is(what + ": answer behind its end", x.answer(attache, row.length), NONE);
+    }
+
+    /** An object at a day, with attaches told each by kind, side, key and blots. */
+    static FugueNotes affair(int day, int[][] attaches, int[] tune0, int[] tune1) {
+        FugueNotes x = new FugueNotes();
+        for (int d = 0; d < day; d++) {
+            x.days(1);
+        }
+        for (int a = 0; a < attaches.length; a++) {
+            x.attache(attaches[a][0], attaches[a][1]);
+            x.set(a, 2, attaches[a][2]);
+            x.set(a, 3, attaches[a][3]);
+        }
+        tune(x, 0, tune0);
+        tune(x, 1, tune1);
+        return x;
+    }
+
+    static int feed(FugueNotes x, String text) {
+        int has = x.count(1);
+        for (int i = 0; i < text.length(); i++) {
+            has = x.feed(text.charAt(i), 1);
+        }
+        return has;
+    }
+
+    static int tell(FugueNotes x, String text) {
+        feed(x, text);
+        return x.affair();
+    }
+}
