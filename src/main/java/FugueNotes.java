@@ -269,27 +269,13 @@ public final class FugueNotes {
     }
 
     // ---- what is best
-    //
-    // Each choice is tried only for fewer days than the best before it took:
-    // so of several the least one stands.
 
     public int key(int attache) {
         if (!present.has(attache)) {
             return found(BEYOND);
         }
         int side = present.attaches[attache].side;
-        int best = NONE;
-        int soonest = MOST_DAYS_TO_CHOOSE + 1;
-        for (int key = 0; key < KEYS; key++) {
-            startTrial();
-            trial.attaches[attache].key = key;
-            int n = trial.passDaysUntilHome(side, soonest - 1);
-            if (n < soonest) {
-                soonest = n;
-                best = key;
-            }
-        }
-        return best == NONE ? found(NONE) : best;
+        return soonestHome(attache, side, Attache.BY_KEY, KEYS, MOST_DAYS_TO_CHOOSE + 1);
     }
 
     public int kind(int attache) {
@@ -297,38 +283,16 @@ public final class FugueNotes {
             return found(BEYOND);
         }
         int side = present.attaches[attache].side;
-        int best = NONE;
-        int soonest = MOST_DAYS_TO_CHOOSE + 1;
-        for (int kind = 0; kind < KINDS; kind++) {
-            startTrial();
-            trial.attaches[attache].kind = kind;
-            int n = trial.passDaysUntilHome(side, soonest - 1);
-            if (n < soonest) {
-                soonest = n;
-                best = kind;
-            }
-        }
-        return best == NONE ? found(NONE) : best;
+        return soonestHome(attache, side, Attache.BY_KIND, KINDS, MOST_DAYS_TO_CHOOSE + 1);
     }
 
     public int blot(int attache, int side) {
         if (!present.has(attache) || !isSide(side)) {
             return found(BEYOND);
         }
-        int blots = present.attaches[attache].blots;
         startTrial();
-        int soonest = trial.passDaysUntilHome(side, MOST_DAYS_TO_CHOOSE);
-        int best = NONE;
-        for (int place = 0; place < PLACES; place++) {
-            startTrial();
-            trial.attaches[attache].blots = blots ^ (1 << place);
-            int n = trial.passDaysUntilHome(side, soonest - 1);
-            if (n < soonest) {
-                soonest = n;
-                best = place;
-            }
-        }
-        return best == NONE ? found(NONE) : best;
+        int asItIs = trial.passDaysUntilHome(side, MOST_DAYS_TO_CHOOSE);
+        return soonestHome(attache, side, Attache.BY_BLOT, PLACES, asItIs);
     }
 
     public int calm(int attache, int side, int n) {
@@ -355,7 +319,10 @@ public final class FugueNotes {
         int soonest = MOST_DAYS_TO_CHOOSE + 1;
         for (int lesser = 0; lesser < present.count; lesser++) {
             for (int other = lesser + 1; other < present.count; other++) {
-                int n = daysUntilAlikeSwapped(lesser, other, soonest - 1);
+                if (!startTrialSwapped(lesser, other)) {
+                    continue;
+                }
+                int n = trial.passDaysUntilAlike(soonest - 1);
                 if (n < soonest) {
                     soonest = n;
                     best = 10 * lesser + other;
@@ -583,17 +550,36 @@ public final class FugueNotes {
         trial.become(present);
     }
 
-    /** More days than the limit: they are not alike within it, or are of one side. */
-    private int daysUntilAlikeSwapped(int lesser, int other, int limit) {
+    /**
+     * The choice with which a side is home soonest, and sooner than in so many days.
+     * Each is tried only for fewer days than the best before it took: so of several the least one stands.
+     */
+    private int soonestHome(int attache, int side, int by, int choices, int soonerThan) {
+        int best = NONE;
+        int soonest = soonerThan;
+        for (int choice = 0; choice < choices; choice++) {
+            startTrial();
+            trial.attaches[attache].change(by, choice);
+            int n = trial.passDaysUntilHome(side, soonest - 1);
+            if (n < soonest) {
+                soonest = n;
+                best = choice;
+            }
+        }
+        return best == NONE ? found(NONE) : best;
+    }
+
+    /** Whether there is such a trial: not for two of the same side. */
+    private boolean startTrialSwapped(int lesser, int other) {
         int side = present.attaches[lesser].side;
         int otherSide = present.attaches[other].side;
         if (side == otherSide) {
-            return limit + 1;
+            return false;
         }
         startTrial();
         trial.attaches[lesser].side = otherSide;
         trial.attaches[other].side = side;
-        return trial.passDaysUntilAlike(limit);
+        return true;
     }
 
     private boolean isJustWritten(Sheet sheet, Attache guess) {
@@ -697,12 +683,8 @@ public final class FugueNotes {
             return i >= 0 && i < length ? tones[i] : 0;
         }
 
-        int toneFromEnd(int i) {
-            return toneAt(length - 1 - i);
-        }
-
         boolean isHome() {
-            return length > 0 && toneFromEnd(0) == 0;
+            return length > 0 && tones[length - 1] == 0;
         }
 
         boolean isSameAs(Tune other) {
@@ -747,6 +729,10 @@ public final class FugueNotes {
 
     /** One who answers the tune of the other side. */
     private static final class Attache {
+        private static final int BY_KEY = 0;
+        private static final int BY_KIND = 1;
+        private static final int BY_BLOT = 2;
+
         private int kind;
         private int side;
         private int key;
@@ -759,6 +745,20 @@ public final class FugueNotes {
             key = other.key;
             blots = other.blots;
             wrote = other.wrote;
+        }
+
+        void change(int by, int choice) {
+            switch (by) {
+                case BY_KEY:
+                    key = choice;
+                    break;
+                case BY_KIND:
+                    kind = choice;
+                    break;
+                default:
+                    blots ^= 1 << choice;
+                    break;
+            }
         }
 
         int lengthTo(Tune heard) {
@@ -791,13 +791,18 @@ public final class FugueNotes {
 
         /** A tone before key and blots, not yet a rest of twelve. */
         private int turnedAbout(Tune heard, int i) {
+            if (i < 0 || i >= heard.length) {
+                return 0;
+            }
+            int[] tones = heard.tones;
+            int last = heard.length - 1;
             switch (kind) {
-                case MIRROR: return 2 * heard.toneAt(0) - heard.toneAt(i);
-                case CRAB: return heard.toneFromEnd(i);
-                case PEDAL: return heard.toneAt(0);
-                case TABLE: return 2 * heard.toneFromEnd(0) - heard.toneFromEnd(i);
-                case TENOR: return heard.toneFromEnd(i) + (i & 1);
-                default: return heard.toneAt(i);
+                case MIRROR: return 2 * tones[0] - tones[i];
+                case CRAB: return tones[last - i];
+                case PEDAL: return tones[0];
+                case TABLE: return 2 * tones[last] - tones[last - i];
+                case TENOR: return tones[last - i] + (i & 1);
+                default: return tones[i];
             }
         }
     }
@@ -984,20 +989,6 @@ public final class FugueNotes {
         int byteAt(int i) {
             return i >= 0 && i < length ? bytes[i] : NO_BYTE;
         }
-
-        boolean isBlankAt(int i) {
-            return byteAt(i) == ' ';
-        }
-
-        boolean isLetterAt(int i) {
-            int b = byteAt(i);
-            return b >= 'a' && b <= 'z';
-        }
-
-        boolean isDigitAt(int i) {
-            int b = byteAt(i);
-            return b >= '0' && b <= '9';
-        }
     }
 
     /** Reads the tape token by token; where it stops for a fault, the token it holds is the fault. */
@@ -1139,15 +1130,15 @@ public final class FugueNotes {
 
         private void advance() {
             start = end;
-            while (start < tape.length && tape.isBlankAt(start)) {
+            while (start < tape.length && tape.byteAt(start) == ' ') {
                 start++;
             }
             end = start;
             if (start >= tape.length) {
                 token = END;
-            } else if (tape.isLetterAt(start)) {
+            } else if (isLetter(tape.byteAt(start))) {
                 takeWord();
-            } else if (tape.isDigitAt(start)) {
+            } else if (isDigit(tape.byteAt(start))) {
                 takeNumber();
             } else {
                 token = tape.byteAt(start) == ';' ? SIGN : OTHER;
@@ -1155,9 +1146,17 @@ public final class FugueNotes {
             }
         }
 
+        private static boolean isLetter(int b) {
+            return b >= 'a' && b <= 'z';
+        }
+
+        private static boolean isDigit(int b) {
+            return b >= '0' && b <= '9';
+        }
+
         private void takeWord() {
             token = WORD;
-            while (end < tape.length && tape.isLetterAt(end)) {
+            while (end < tape.length && isLetter(tape.byteAt(end))) {
                 end++;
             }
         }
@@ -1166,7 +1165,7 @@ public final class FugueNotes {
         private void takeNumber() {
             token = NUMBER;
             number = 0;
-            while (end < tape.length && tape.isDigitAt(end)) {
+            while (end < tape.length && isDigit(tape.byteAt(end))) {
                 number = Math.min(10 * number + tape.byteAt(end) - '0', TOO_GREAT);
                 end++;
             }

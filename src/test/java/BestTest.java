@@ -113,6 +113,15 @@ public final class BestTest {
         due.is("sooner", x.blot(0, 0), 0);
         // Blotted on side 1, 6 1 8 3 10 5 0 come home on the 13th day as well.
         due.is("no sooner", x.blot(1, 0), Due.NONE);
+        // As it is in 17 days, blotted at 0 in 5, at 1 in 11.
+        int[][] attaches = {{2, 0, 9, 0}, {0, 1, 4, 0}};
+        x = Due.affair(0, attaches, new int[] {10, 10}, new int[] {7, 4});
+        due.is("in 17", x.home(0), 17);
+        due.is("the soonest of two", x.blot(0, 0), 0);
+        x.set(0, 3, 1);
+        due.is("in 5", x.home(0), 5);
+        x.set(0, 3, 2);
+        due.is("in 11", x.home(0), 11);
     }
 
     private static void calm() {

@@ -70,10 +70,16 @@ final class Due {
         return x;
     }
 
+    /** Four bytes a call, as an object has only 512 calls. */
     static int feed(FugueNotes x, String text) {
-        int has = x.count(1);
-        for (int i = 0; i < text.length(); i++) {
-            has = x.feed(text.charAt(i), 1);
+        int has = 0;
+        for (int i = 0; i < text.length(); i += 4) {
+            String part = text.substring(i, Math.min(i + 4, text.length()));
+            int bytes = 0;
+            for (int b = 0; b < part.length(); b++) {
+                bytes = bytes << 8 | part.charAt(b);
+            }
+            has = x.feed(bytes, part.length());
         }
         return has;
     }

@@ -39,6 +39,24 @@ public final class ImagesTest {
         x.attache(0, 0);
         due.is("the latest", x.undo(), 2);
         due.is("status stays", x.status(0), 2);
+        newOnesBeginAnew();
+    }
+
+    /** What an attache was that undo() took away is not what a new one is. */
+    private static void newOnesBeginAnew() {
+        FugueNotes x = new FugueNotes();
+        x.image();
+        x.attache(5, 1);
+        x.set(0, 2, 4);
+        x.set(0, 3, 4);
+        x.set(0, 4, 4);
+        due.is("undo", x.undo(), 0);
+        due.is("none", x.of(0, 0), Due.BEYOND);
+        due.is("a new one", x.attache(1, 0), 0);
+        int[] all = {1, 0, 0, 0, 0};
+        for (int what = 0; what < all.length; what++) {
+            due.is("new of(0, " + what + ")", x.of(0, what), all[what]);
+        }
     }
 
     private static void changeAll(FugueNotes x) {

@@ -33,6 +33,9 @@ public final class SheetsTest {
         due.is("still 7", x.write(3, 39, 8), 7);
         due.is("anew", x.sheet(3, 64, 40), 40);
         due.is("all 0", x.write(3, 39, 9), 0);
+        due.is("write(3, 0, 7)", x.write(3, 0, 7), 0);
+        due.is("anew", x.sheet(3, 64, 40), 40);
+        due.is("the first is 0", x.write(3, 0, 0), 0);
         due.is("of none", x.sheet(3, 16, 0), 0);
         due.is("not missing", x.write(3, 0, 0), Due.BEYOND);
         due.is("missing again", x.sheet(3, 0, 5), 0);

@@ -112,6 +112,10 @@ public final class TextTest {
         due.is("another word", Due.tell(x, "fox of 1"), -1);
         due.is("a longer word", Due.tell(x, "attaches of 1"), -1);
         due.is("a begin of a word", Due.tell(x, "attach of 1"), -1);
+        due.is("another first letter", Due.tell(x, "drab of 1"), -1);
+        due.is("another last letter", Due.tell(x, "craz of 1"), -1);
+        due.is("z is a letter", Due.tell(x, "crabz of 1"), -1);
+        due.is("a is a letter", Due.tell(x, "crab ofa 1"), -6);
         due.is("a number first", Due.tell(x, " 7"), -2);
         due.is("a sign first", Due.tell(x, ";"), -1);
         due.is("of first", Due.tell(x, "of 1"), -1);
