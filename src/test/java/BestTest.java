@@ -9,7 +9,6 @@ public final class BestTest {
         calm();
         swap();
         keys();
-        within100Days();
         due.end();
     }
 
@@ -192,48 +191,5 @@ public final class BestTest {
         due.is("keys(-1, 0)", x.keys(-1, 0), Due.BEYOND);
         due.is("status(0)", x.status(0), 4);
         unchanged("keys", x, 0);
-    }
-
-    /** Days that lie about the limit: 100 counts and 101 doesn't. (A key is home sooner or never.) */
-    private static void within100Days() {
-        // To one tone all kinds answer alike, but for their blots.
-        int[][] kindIn101 = {
-            {2, 0, 11, 0}, {5, 1, 5, 0}, {2, 0, 11, 0}, {5, 1, 9, 0}, {5, 1, 5, 11}, {5, 1, 7, 6}, {3, 0, 1, 0},
-            {3, 1, 0, 0},
-        };
-        FugueNotes x = Due.affair(7, kindIn101, new int[] {1}, new int[] {4});
-        due.is("kind in 101", x.kind(1), Due.NONE);
-        x.days(1);
-        due.is("kind in 100", x.kind(1), 0);
-
-        int[][] blotIn101 = {
-            {1, 0, 5, 0}, {4, 1, 7, 5}, {0, 0, 9, 0}, {1, 0, 10, 0}, {3, 1, 9, 0}, {5, 0, 9, 10}, {4, 1, 6, 0},
-        };
-        x = Due.affair(7, blotIn101, new int[] {8}, new int[] {8});
-        due.is("blot in 101", x.blot(6, 1), Due.NONE);
-        int[][] blotIn100 = {
-            {4, 0, 5, 0}, {3, 1, 0, 0}, {5, 0, 3, 6}, {5, 0, 4, 3}, {5, 1, 2, 15}, {1, 0, 0, 7}, {5, 0, 0, 0},
-        };
-        x = Due.affair(2, blotIn100, new int[] {4}, new int[] {10});
-        due.is("blot in 100", x.blot(1, 1), 0);
-
-        int[][] swapIn101 = {{5, 0, 4, 5}, {5, 1, 2, 15}, {5, 0, 8, 13}, {4, 0, 8, 8}, {2, 1, 10, 7}};
-        x = Due.affair(0, swapIn101, new int[] {2, 9}, new int[] {5, 6});
-        due.is("swap in 101", x.swap(), Due.NONE);
-        int[][] swapIn100 = {
-            {1, 0, 8, 0}, {0, 1, 2, 0}, {0, 0, 8, 0}, {0, 0, 4, 0}, {1, 1, 2, 0}, {5, 1, 6, 0}, {4, 1, 0, 0},
-        };
-        x = Due.affair(4, swapIn100, new int[] {9, 9}, new int[] {2, 9});
-        due.is("swap in 100 finds a pair", x.swap() >= 0 ? 1 : 0, 1);
-        due.is("which is alike then", alikeSwapped(x, x.swap()), 100);
-    }
-
-    private static int alikeSwapped(FugueNotes x, int pair) {
-        int lesser = pair / 10;
-        int other = pair % 10;
-        int side = x.of(lesser, 1);
-        x.set(lesser, 1, x.of(other, 1));
-        x.set(other, 1, side);
-        return x.alike();
     }
 }

@@ -84,16 +84,8 @@ public final class DaysTest {
         due.is("status(0)", x.status(0), 5);
     }
 
-    private static FugueNotes atDay(int day) {
-        FugueNotes x = new FugueNotes();
-        for (int left = day; left > 0; left -= 60) {
-            x.days(Math.min(left, 60));
-        }
-        return x;
-    }
-
     private static void lastDay() {
-        FugueNotes x = atDay(9998);
+        FugueNotes x = Due.atDay(9998);
         due.is("two days more", x.days(2), Due.STATE);
         due.is("wrong days first", x.days(61), Due.BEYOND);
         due.is("still 9998", x.now(0), 9998);
@@ -211,7 +203,6 @@ public final class DaysTest {
         due.is("status(3)", x.status(3), 1);
         due.is("status(0)", x.status(0), 2);
         homeByDays();
-        homeOnThe200thDay();
     }
 
     /** Against days that go by in earnest. */
@@ -228,18 +219,6 @@ public final class DaysTest {
             }
         }
         due.is("some take long", atLast > 60 ? 1 : 0, 1);
-    }
-
-    private static void homeOnThe200thDay() {
-        int[][] attaches = {
-            {0, 0, 5, 0}, {5, 1, 7, 0}, {5, 0, 6, 0}, {4, 1, 8, 0}, {5, 1, 1, 3}, {1, 1, 9, 0}, {0, 0, 2, 0},
-        };
-        FugueNotes x = Due.affair(0, attaches, new int[] {4}, new int[] {9});
-        due.is("in 201 days", x.home(0), Due.NONE);
-        x.days(1);
-        due.is("in 200 days", x.home(0), 200);
-        x.days(60);
-        due.is("in 140 days", x.home(0), 140);
     }
 
     private static FugueNotes slowlyHome(int writers, int tone, int key) {
@@ -278,17 +257,6 @@ public final class DaysTest {
         Due.tune(y, 1, 1);
         due.is("a begin is never alike", y.alike(), Due.NONE);
         due.is("status(3)", x.status(3), 1);
-        alikeOnThe200thDay();
-    }
-
-    private static void alikeOnThe200thDay() {
-        int[][] attaches = {
-            {4, 0, 3, 0}, {5, 1, 2, 14}, {1, 0, 10, 0}, {0, 0, 11, 0}, {1, 1, 2, 0}, {0, 0, 2, 0}, {5, 0, 5, 0},
-        };
-        FugueNotes x = Due.affair(0, attaches, new int[] {0, 8}, new int[] {7, 6});
-        due.is("in 201 days", x.alike(), Due.NONE);
-        x.days(1);
-        due.is("in 200 days", x.alike(), 200);
     }
 
     private static void again() {
@@ -310,7 +278,6 @@ public final class DaysTest {
         due.is("no tune", new FugueNotes().again(0), Due.NONE);
         againBehindADayOnWhichItWasNot();
         againAfterManyDays();
-        againOnThe200thDay();
     }
 
     private static void againBehindADayOnWhichItWasNot() {
@@ -339,21 +306,9 @@ public final class DaysTest {
         due.is("again(1)", x.again(1), 168);
     }
 
-    private static void againOnThe200thDay() {
-        int[][] in200 = {
-            {5, 0, 10, 0}, {1, 1, 9, 0}, {0, 0, 6, 0}, {4, 0, 6, 0}, {2, 0, 0, 0}, {0, 1, 5, 13}, {0, 1, 11, 15},
-            {1, 0, 7, 0},
-        };
-        due.is("in 200 days", Due.affair(0, in200, new int[] {11, 1}, new int[] {1, 9}).again(1), 200);
-        int[][] in201 = {
-            {2, 0, 3, 0}, {0, 1, 6, 11}, {5, 1, 0, 0}, {2, 0, 3, 0}, {1, 0, 6, 5}, {5, 1, 10, 0}, {1, 1, 2, 14},
-        };
-        due.is("in 201 days", Due.affair(0, in201, new int[] {10, 5}, new int[] {3, 0}).again(0), Due.NONE);
-    }
-
     /** ON has no last day: it only looks ahead. */
     private static void aheadOfTheLastDay() {
-        FugueNotes x = atDay(9998);
+        FugueNotes x = Due.atDay(9998);
         x.attache(0, 0);
         x.attache(0, 1);
         x.set(0, 2, 1);

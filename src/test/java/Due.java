@@ -1,3 +1,5 @@
+import java.util.function.IntToLongFunction;
+
 /** Compares answers with what is due, and counts those that are not. */
 final class Due {
     static final int BEYOND = -1000000001;
@@ -10,17 +12,53 @@ final class Due {
 
     private int asked = 0;
     private int wrong = 0;
+    private int sentences = 0;
+    private String sentence = "";
+    private int askedBefore = -1;
 
     void is(String what, long got, long want) {
         asked++;
         if (got != want) {
             wrong++;
-            System.out.println(what + " answered " + got + ", due is " + want);
+            System.out.println(sentence + what + " answered " + got + ", due is " + want);
+        }
+    }
+
+    void holds(String what, boolean so) {
+        is(what, so ? 1 : 0, 1);
+    }
+
+    /** The least and the most are taken, whatever is outside is BEYOND. */
+    void bounds(String what, IntToLongFunction call, int least, int most) {
+        int[] inside = {least, most};
+        int[] outside = {least - 1, most + 1, Integer.MIN_VALUE, Integer.MAX_VALUE, least - 65536, most + 65536};
+        for (int v : inside) {
+            holds(what + " " + v + " is taken", call.applyAsLong(v) != BEYOND);
+        }
+        for (int v : outside) {
+            is(what + " " + v, call.applyAsLong(v), BEYOND);
+        }
+    }
+
+    /** What is asked from here on stands for these words of the document; a sentence nothing is asked for is wrong. */
+    void sentence(String where, String words) {
+        leaveSentence();
+        sentences++;
+        sentence = where + ", \"" + words + "\": ";
+        askedBefore = asked;
+    }
+
+    private void leaveSentence() {
+        if (asked == askedBefore) {
+            wrong++;
+            System.out.println(sentence + "nothing was asked");
         }
     }
 
     void end() {
-        System.out.println(asked + " asked, " + wrong + " wrong");
+        leaveSentence();
+        System.out.println(asked + " asked" + (sentences == 0 ? "" : " for " + sentences + " sentences") + ", "
+                + wrong + " wrong");
         if (wrong != 0 || asked == 0) {
             System.exit(1);
         }
@@ -54,12 +92,18 @@ final class Due {
         is(what + ": answer behind its end", x.answer(attache, row.length), NONE);
     }
 
+    /** An object on a day on which nothing was there to write. */
+    static FugueNotes atDay(int day) {
+        FugueNotes x = new FugueNotes();
+        for (int left = day; left > 0; left -= 60) {
+            x.days(Math.min(left, 60));
+        }
+        return x;
+    }
+
     /** An object at a day, with attaches told each by kind, side, key and blots. */
     static FugueNotes affair(int day, int[][] attaches, int[] tune0, int[] tune1) {
-        FugueNotes x = new FugueNotes();
-        for (int d = 0; d < day; d++) {
-            x.days(1);
-        }
+        FugueNotes x = atDay(day);
         for (int a = 0; a < attaches.length; a++) {
             x.attache(attaches[a][0], attaches[a][1]);
             x.set(a, 2, attaches[a][2]);

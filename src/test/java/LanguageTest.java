@@ -38,7 +38,7 @@ public final class LanguageTest {
     }
 
     private static void holds(String what, boolean so) {
-        due.is(what, so ? 1 : 0, 1);
+        due.holds(what, so);
     }
 
     private static List<Class<?>> classes() {
