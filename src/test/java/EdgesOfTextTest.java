@@ -265,6 +265,25 @@ public final class EdgesOfTextTest {
         due.is("for blot", told("crab of 0 key 1 blots 2"), -17);
         due.is("of behind it", told("crab of 0 of"), -11);
         due.is("behind blot", told("crab of 0 blot 2 of"), -18);
+        for (String name : KINDS) {
+            misspelt("", name, " of 0");
+        }
+        misspelt("", "tune", " 0 1");
+        misspelt("crab ", "of", " 0");
+        misspelt("crab of 0 ", "key", " 1");
+        misspelt("crab of 0 ", "blot", " 1");
+        misspelt("crab of 0 key 1 ", "blot", " 1");
+    }
+
+    /** A word that is another one by a single letter, wherever it stands. */
+    private static void misspelt(String ahead, String word, String behind) {
+        due.is(ahead + word + behind, told(ahead + word + behind), 1);
+        for (int i = 0; i < word.length(); i++) {
+            char[] letters = word.toCharArray();
+            letters[i] = letters[i] == 'z' ? 'a' : (char) (letters[i] + 1);
+            String other = new String(letters);
+            due.is(ahead + other + behind, told(ahead + other + behind), -1 - ahead.length());
+        }
     }
 
     private static void byteThatBeginsNoToken() {
