@@ -306,7 +306,8 @@ public final class EdgesOfTermsTest {
     }
 
     private static void answerToTwelve() {
-        due.sentence("Terms 1", "PEDAL: t at 0, and KEY. TABLE: as MIRROR to t backwards. "
+        due.sentence("Terms 1", "MIRROR: as ATTACHE to the TUNE whose TONES are twice the first one less each. "
+                + "CRAB: as ATTACHE to t backwards. PEDAL: t at 0, and KEY. TABLE: as MIRROR to t backwards. "
                 + "TENOR: as CRAB, and 1 at odd PLACES.");
         int[][] answers = {
             {7, 2, 11, 0, 5, 9, 1, 10, 3, 8, 4, 6},
@@ -342,7 +343,8 @@ public final class EdgesOfTermsTest {
     }
 
     private static void longs() {
-        due.sentence("Terms 1", "PEDAL: as ATTACHE, less 1, if n is above 6.");
+        due.sentence("Terms 1", "ATTACHE: n. MIRROR: as ATTACHE. CRAB: as ATTACHE. PEDAL: as ATTACHE, less 1, "
+                + "if n is above 6. TABLE: as MIRROR. TENOR: as CRAB. (Others as the KIND above.)");
         int[] ofPedal = {0, 1, 2, 3, 4, 5, 6, 6, 7, 8, 9, 10, 11};
         for (int kind = 0; kind < 6; kind++) {
             FugueNotes x = new FugueNotes();
