@@ -26,6 +26,11 @@ public final class LanguageTest {
         "long write(int,int,long)", "int copy(int,int,int,int,int)", "int lays(int,int)", "int book(int,int)",
         "int read(int,int)", "int image()", "int undo()", "int tear()", "int count(int)", "int status(int)",
     };
+    /** Of what rule 4 lists, what the class needs: another one of the list may be put here. */
+    private static final Set<String> LIBRARY =
+            Set.of("Math.min", "Math.max", "Math.abs", "Math.floorMod", "Integer.bitCount", "System.arraycopy");
+    private static final Set<String> STATICS =
+            Set.of("int", "long", "boolean", "char", "String", "int[]", "long[]", "char[]", "byte[]");
     private static final Due due = new Due();
 
     public static void main(String[] args) throws IOException {
@@ -92,6 +97,7 @@ public final class LanguageTest {
             boolean isStatic = Modifier.isStatic(f.getModifiers());
             own += isStatic ? 0 : 1;
             holds(f + " is final if static", !isStatic || Modifier.isFinal(f.getModifiers()));
+            holds(f + " is a constant if static", !isStatic || STATICS.contains(f.getType().getSimpleName()));
         }
         holds(c + " has at most twenty fields", own <= 20);
     }
@@ -112,7 +118,25 @@ public final class LanguageTest {
             Matcher m = Pattern.compile(rule).matcher(code);
             holds("nothing of " + rule, !m.find());
         }
+        library(code);
         shortMethods(code);
+    }
+
+    /** A name with a great letter ahead of a point, or behind "new", is the library's or that of a class inside. */
+    private static void library(String code) {
+        Set<String> own = new HashSet<>(Set.of("int", "long"));
+        for (Class<?> c : classes()) {
+            own.add(c.getSimpleName());
+        }
+        Matcher called = Pattern.compile("\\b([A-Z]\\w*)\\.(\\w+)\\(").matcher(code);
+        while (called.find()) {
+            String call = called.group(1) + "." + called.group(2);
+            holds(call + " may be called", LIBRARY.contains(call) || own.contains(called.group(1)));
+        }
+        Matcher made = Pattern.compile("\\bnew (\\w+)").matcher(code);
+        while (made.find()) {
+            holds(made.group() + " may be made", own.contains(made.group(1)));
+        }
     }
 
     /** A method of the file begins at 4 or 8 blanks and ends with a brace at as many. */
