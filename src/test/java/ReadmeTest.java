@@ -146,12 +146,36 @@ public final class ReadmeTest {
                 FugueNotes x = new FugueNotes();
                 due.is("an item of " + line, Due.tell(x, m.group(2).toLowerCase(Locale.ROOT) + " of 0"), 1);
                 due.is("the number of " + line, x.of(0, 0), Integer.parseInt(m.group(1)));
-                int under = KINDS.indexOf(m.group(3));
-                due.holds("the kind above of " + line, under >= 0 ? x.as(0, under) == 0 : m.group(3).isEmpty());
+                due.is("the kind above of " + line, KINDS.indexOf(m.group(3)), above(x.of(0, 0)));
                 rows++;
             }
         }
         due.is("rows of kinds", rows, KINDS.size());
+    }
+
+    /** The kind just above one, -1 if none: of those that it can be taken as, the one that can be taken as most. */
+    private static int above(int kind) {
+        int above = -1;
+        for (int k = 0; k < KINDS.size(); k++) {
+            boolean isNearer = above < 0 || takenAs(k) > takenAs(above);
+            if (k != kind && isTakenAs(kind, k) && isNearer) {
+                above = k;
+            }
+        }
+        return above;
+    }
+
+    private static int takenAs(int kind) {
+        int kinds = 0;
+        for (int k = 0; k < KINDS.size(); k++) {
+            kinds += isTakenAs(kind, k) ? 1 : 0;
+        }
+        return kinds;
+    }
+
+    private static boolean isTakenAs(int kind, int other) {
+        FugueNotes x = new FugueNotes();
+        return x.as(x.attache(kind, 0), other) != Due.KIND;
     }
 
     private static void tests(String text) throws IOException {
